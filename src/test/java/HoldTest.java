@@ -1,0 +1,38 @@
+/** Promise 6: hold. */
+final class HoldTest {
+    public static void main(String[] args) {
+        RetentionVault v = new RetentionVault();
+        v.put(1, 10, 0);
+        v.put(2, 10, 0);
+        v.mark(2);
+        v.tick(6);
+        Checks.due("off, and was off", false, v.hold(0, 3, false));
+        Checks.due("no entry", 3, () -> v.figure(3));
+        Checks.due("on", true, v.hold(0, 3, true));
+        Checks.entryDue(v, 0, 6, 6, 0, 3);
+        Checks.due("on again", false, v.hold(0, 3, true));
+        Checks.due("one entry", 4, () -> v.figure(3));
+        Checks.due("hold 0", true, v.hold(0, 0, true));
+        Checks.due("hold 7", true, v.hold(0, 7, true));
+        Checks.due("the sum", 8 + 1 + 128, () -> v.about(0, 6));
+        Checks.due("the other has none", 0, () -> v.about(1, 6));
+        Checks.due("off", true, v.hold(0, 3, false));
+        Checks.entryDue(v, 0, 6, 7, 0, 3);
+        Checks.due("the sum now", 1 + 128, () -> v.about(0, 6));
+        Checks.due("guarded", 1, () -> v.about(0, 7));
+        wrongInputs(v);
+        Checks.end();
+    }
+
+    private static void wrongInputs(RetentionVault v) {
+        int[] holds = {-1, 8, 32, Integer.MIN_VALUE, Integer.MAX_VALUE};
+        for (int hold : holds) {
+            Checks.badArgument(v, "hold(0, " + hold + ", true)", () -> v.hold(0, hold, true));
+            Checks.badArgument(v, "hold(0, " + hold + ", false)", () -> v.hold(0, hold, false));
+            Checks.missing(v, "hold(9, " + hold + ", true)", () -> v.hold(9, hold, true));
+        }
+        Checks.missing(v, "hold of a marker", () -> v.hold(2, 0, true));
+        Checks.missing(v, "off, of a marker", () -> v.hold(2, 0, false));
+        Checks.missing(v, "hold(-1, 0, true)", () -> v.hold(-1, 0, true));
+    }
+}
