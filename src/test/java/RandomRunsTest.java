@@ -3,7 +3,7 @@ import java.util.Random;
 
 /** Long runs of calls, each answer against the one of the PlainVault; the seeds are fixed. */
 final class RandomRunsTest {
-    private static final int RUNS = 1500;
+    private static final int RUNS = 400;
     private static final int CALLS = 512;
     private static final String[] NAMES = {
         "put", "put", "put", "put", "mark", "mark", "erase", "erase", "retain", "hold", "hold", "rule",
