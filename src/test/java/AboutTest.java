@@ -24,7 +24,6 @@ final class AboutTest {
         aboutDue(v, 0, -5, 1000000, 3, 3, 0, 6, 0, 0);
         v.hold(0, 0, true);
         aboutDue(v, 0, -5, 1000000, 3, 3, 0, 6, 1, 1);
-        wrongInputs(v);
         Checks.end();
     }
 
@@ -33,16 +32,5 @@ final class AboutTest {
             int w = what;
             Checks.due("about(" + version + ", " + what + ")", want[what], () -> v.about(version, w));
         }
-    }
-
-    private static void wrongInputs(RetentionVault v) {
-        int[] wrong = {-1, 8, Integer.MIN_VALUE, Integer.MAX_VALUE};
-        for (int x : wrong) {
-            Checks.badArgument(v, "about(0, " + x + ")", () -> v.about(0, x));
-            Checks.badArgument(v, "about(1, " + x + ")", () -> v.about(1, x));
-            Checks.missing(v, "about(" + x + ", 0)", () -> v.about(x, 0));
-            Checks.missing(v, "about(" + x + ", " + x + ")", () -> v.about(x, x));
-        }
-        Checks.missing(v, "about(3, 0)", () -> v.about(3, 0));
     }
 }

@@ -14,6 +14,22 @@ final class Checks {
     private Checks() {
     }
 
+    /** A sentence of the document that names a boundary case, and the test that is its own. */
+    static void sentence(String words, Deed test) {
+        int madeBefore = made;
+        int wrongBefore = wrong;
+        try {
+            test.run();
+        } catch (RuntimeException e) {
+            complain("a call that should be taken threw " + e);
+            e.printStackTrace(System.out);
+        }
+        if (made == madeBefore) {
+            complain("nothing was checked");
+        }
+        System.out.println((wrong == wrongBefore ? "holds: " : "BROKEN: ") + words);
+    }
+
     static void due(String call, long want, Call asked) {
         made++;
         try {
@@ -30,10 +46,16 @@ final class Checks {
         due(call, want ? 1 : 0, () -> got ? 1 : 0);
     }
 
-    /** The very exception is due, and that the vault is afterwards as it was before. */
-    static void refused(RetentionVault vault, Class<? extends RuntimeException> want, String call, Deed deed) {
+    static void same(String call, String want, String got) {
         made++;
-        String before = State.of(vault);
+        if (!got.equals(want)) {
+            complain(call + " led to" + got + "\n  due is" + want);
+        }
+    }
+
+    /** The very exception is due: not one of a class below it. */
+    static void thrown(Class<? extends RuntimeException> want, String call, Deed deed) {
+        made++;
         try {
             deed.run();
             complain(call + " threw nothing, due is " + want.getName());
@@ -42,26 +64,25 @@ final class Checks {
                 complain(call + " threw " + e + ", due is " + want.getName());
             }
         }
-        String after = State.of(vault);
-        if (!after.equals(before)) {
-            complain(call + " changed " + before + " into " + after);
-        }
+    }
+
+    /**
+     * In the midst of a run of calls: asks for the figures alone, for the vault still has to be used
+     * after it. That truly nothing was changed is for Bounds.refused to see.
+     */
+    private static void refused(RetentionVault vault, Class<? extends RuntimeException> want, String call,
+            Deed deed) {
+        String before = Answers.figures(vault);
+        thrown(want, call, deed);
+        same(call, before, Answers.figures(vault));
     }
 
     static void missing(RetentionVault vault, String call, Deed deed) {
         refused(vault, java.util.NoSuchElementException.class, call, deed);
     }
 
-    static void badArgument(RetentionVault vault, String call, Deed deed) {
-        refused(vault, IllegalArgumentException.class, call, deed);
-    }
-
     static void badState(RetentionVault vault, String call, Deed deed) {
         refused(vault, IllegalStateException.class, call, deed);
-    }
-
-    static void outOfBounds(RetentionVault vault, String call, Deed deed) {
-        refused(vault, IndexOutOfBoundsException.class, call, deed);
     }
 
     /** The latest entry but for so many. */

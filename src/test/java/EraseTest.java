@@ -3,9 +3,6 @@ final class EraseTest {
     public static void main(String[] args) {
         keyAndLog();
         currentFallsBack();
-        retained();
-        retainedStrictly();
-        held();
         Checks.end();
     }
 
@@ -44,55 +41,5 @@ final class EraseTest {
         v.put(1, 40, 0);
         Checks.due("since of 2 is the latest day", 5, () -> v.about(2, 3));
         Checks.due("the other key is as it was", 1, () -> v.current(2));
-    }
-
-    private static void retained() {
-        RetentionVault v = new RetentionVault();
-        v.put(1, 10, 0);
-        v.put(1, 10, 0);
-        v.retain(0, 2, false);
-        v.retain(1, 2, false);
-        Checks.badState(v, "erase of a retained one", () -> v.erase(0, false));
-        Checks.due("erase by force", 1, () -> v.erase(0, true));
-        v.tick(1);
-        Checks.badState(v, "erase a day before the end", () -> v.erase(1, false));
-        v.tick(1);
-        Checks.due("erase on the day of the end", 1, () -> v.erase(1, false));
-    }
-
-    private static void retainedStrictly() {
-        RetentionVault v = new RetentionVault();
-        v.put(1, 10, 0);
-        v.retain(0, 2, true);
-        Checks.badState(v, "erase of a strictly retained one", () -> v.erase(0, false));
-        Checks.badState(v, "the same by force", () -> v.erase(0, true));
-        v.tick(1);
-        Checks.badState(v, "a day before the end, by force", () -> v.erase(0, true));
-        v.tick(1);
-        Checks.due("on the day of the end", 1, () -> v.erase(0, false));
-        weakAfterStrict();
-    }
-
-    private static void weakAfterStrict() {
-        RetentionVault v = new RetentionVault();
-        v.put(1, 10, 0);
-        v.retain(0, 1, true);
-        v.tick(1);
-        v.retain(0, 5, false);
-        Checks.badState(v, "erase without force", () -> v.erase(0, false));
-        Checks.due("erase by force", 1, () -> v.erase(0, true));
-    }
-
-    private static void held() {
-        RetentionVault v = new RetentionVault();
-        v.put(1, 10, 0);
-        v.hold(0, 0, true);
-        v.hold(0, 7, true);
-        Checks.badState(v, "erase of a held one", () -> v.erase(0, false));
-        Checks.badState(v, "the same by force", () -> v.erase(0, true));
-        v.hold(0, 0, false);
-        Checks.badState(v, "held by one more", () -> v.erase(0, true));
-        v.hold(0, 7, false);
-        Checks.due("held no more", 1, () -> v.erase(0, false));
     }
 }

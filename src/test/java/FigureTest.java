@@ -19,21 +19,7 @@ final class FigureTest {
         figuresDue(v, 2, 4, 4, 8, 1000023, 1);
         v.erase(0, false);
         figuresDue(v, 2, 3, 4, 9, 23, 1);
-        int[] wrong = {-1, 6, Integer.MIN_VALUE, Integer.MAX_VALUE};
-        for (int k : wrong) {
-            Checks.badArgument(v, "figure(" + k + ")", () -> v.figure(k));
-        }
-        greatestSum();
         Checks.end();
-    }
-
-    private static void greatestSum() {
-        RetentionVault v = new RetentionVault();
-        for (int i = 0; i < 40; i++) {
-            v.put(i, 1000000, 0);
-            v.hold(i, i % 8, true);
-        }
-        figuresDue(v, 0, 40, 40, 80, 40000000, 40);
     }
 
     private static void figuresDue(RetentionVault v, int... want) {

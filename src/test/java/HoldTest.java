@@ -20,19 +20,6 @@ final class HoldTest {
         Checks.entryDue(v, 0, 6, 7, 0, 3);
         Checks.due("the sum now", 1 + 128, () -> v.about(0, 6));
         Checks.due("guarded", 1, () -> v.about(0, 7));
-        wrongInputs(v);
         Checks.end();
-    }
-
-    private static void wrongInputs(RetentionVault v) {
-        int[] holds = {-1, 8, 32, Integer.MIN_VALUE, Integer.MAX_VALUE};
-        for (int hold : holds) {
-            Checks.badArgument(v, "hold(0, " + hold + ", true)", () -> v.hold(0, hold, true));
-            Checks.badArgument(v, "hold(0, " + hold + ", false)", () -> v.hold(0, hold, false));
-            Checks.missing(v, "hold(9, " + hold + ", true)", () -> v.hold(9, hold, true));
-        }
-        Checks.missing(v, "hold of a marker", () -> v.hold(2, 0, true));
-        Checks.missing(v, "off, of a marker", () -> v.hold(2, 0, false));
-        Checks.missing(v, "hold(-1, 0, true)", () -> v.hold(-1, 0, true));
     }
 }

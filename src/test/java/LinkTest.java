@@ -20,19 +20,7 @@ final class LinkTest {
         v.tick(1);
         long four = after(after(two, 2, 9, 0, 4), 3, 3, 0, -3);
         Checks.due("a rule and a day", four, v::link);
-        manyEntries();
         Checks.end();
-    }
-
-    private static void manyEntries() {
-        RetentionVault v = new RetentionVault();
-        long want = 7;
-        for (int i = 0; i < 200; i++) {
-            v.rule(i % 6, 0, true, 0, 1 + i % 4);
-            want = after(want, 0, 9, i % 6, 1 + i % 4);
-            long due = want;
-            Checks.due("after " + i, due, v::link);
-        }
     }
 
     private static long after(long link, long... entry) {

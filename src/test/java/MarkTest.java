@@ -19,7 +19,6 @@ final class MarkTest {
         v.erase(3, false);
         Checks.due("mark after the marker was erased", 4, () -> v.mark(5));
         guardsAreNotInTheWay();
-        fortyVersions();
         Checks.end();
     }
 
@@ -29,16 +28,5 @@ final class MarkTest {
         v.retain(0, 5, true);
         v.hold(0, 0, true);
         Checks.due("mark(1)", 1, () -> v.mark(1));
-    }
-
-    private static void fortyVersions() {
-        RetentionVault v = new RetentionVault();
-        for (int i = 0; i < 39; i++) {
-            v.put(i, 1, 0);
-        }
-        Checks.due("the 40th version", 39, () -> v.mark(0));
-        Checks.badState(v, "mark when full", () -> v.mark(1));
-        Checks.missing(v, "mark of a marked key when full", () -> v.mark(0));
-        Checks.missing(v, "mark of an unknown key when full", () -> v.mark(99));
     }
 }

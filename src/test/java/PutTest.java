@@ -2,8 +2,6 @@
 final class PutTest {
     public static void main(String[] args) {
         numbersAndLog();
-        limitsOfTheArguments();
-        fortyVersions();
         numbersAreNotUsedAgain();
         Checks.end();
     }
@@ -22,36 +20,6 @@ final class PutTest {
         Checks.due("about(0, 3)", 2, () -> v.about(0, 3));
         Checks.due("about(2, 2)", 0, () -> v.about(2, 2));
         Checks.due("read(2)", 30, () -> v.read(2));
-    }
-
-    private static void limitsOfTheArguments() {
-        RetentionVault v = new RetentionVault();
-        int[] sizes = {0, -1, Integer.MIN_VALUE, 1000001, Integer.MAX_VALUE};
-        for (int size : sizes) {
-            Checks.badArgument(v, "put(0, " + size + ", 0)", () -> v.put(0, size, 0));
-        }
-        int[] tags = {-1, 4, Integer.MIN_VALUE, Integer.MAX_VALUE};
-        for (int tag : tags) {
-            Checks.badArgument(v, "put(0, 1, " + tag + ")", () -> v.put(0, 1, tag));
-        }
-        Checks.due("put(min, 1, 0)", 0, () -> v.put(Integer.MIN_VALUE, 1, 0));
-        Checks.due("put(max, 1000000, 3)", 1, () -> v.put(Integer.MAX_VALUE, 1000000, 3));
-        Checks.due("current(min)", 0, () -> v.current(Integer.MIN_VALUE));
-        Checks.due("current(max)", 1, () -> v.current(Integer.MAX_VALUE));
-    }
-
-    private static void fortyVersions() {
-        RetentionVault v = new RetentionVault();
-        for (int i = 0; i < 40; i++) {
-            int key = i % 3;
-            Checks.due("put " + i, i, () -> v.put(key, 1, 0));
-        }
-        Checks.badState(v, "the 41st put", () -> v.put(0, 1, 0));
-        Checks.badArgument(v, "the 41st put with a wrong size", () -> v.put(0, 0, 0));
-        Checks.badArgument(v, "the 41st put with a wrong tag", () -> v.put(0, 1, 4));
-        v.erase(17, false);
-        Checks.due("put after erase", 40, () -> v.put(0, 1, 0));
-        Checks.badState(v, "put when full again", () -> v.put(0, 1, 0));
     }
 
     private static void numbersAreNotUsedAgain() {

@@ -3,8 +3,9 @@ import java.util.Random;
 
 /** Long runs of calls, each answer against the one of the PlainVault; the seeds are fixed. */
 final class RandomRunsTest {
-    private static final int RUNS = 400;
-    private static final int CALLS = 512;
+    private static final int RUNS = 800;
+    /** Two calls each, so that a vault is used for 512. */
+    private static final int STEPS = 256;
     private static final String[] NAMES = {
         "put", "put", "put", "put", "mark", "mark", "erase", "erase", "retain", "hold", "hold", "rule",
         "unrule", "fetch", "fetch", "read", "tick", "tick", "tick", "current", "about", "about", "entry",
@@ -31,7 +32,7 @@ final class RandomRunsTest {
     }
 
     private boolean isRight() {
-        for (int i = 0; i < CALLS; i++) {
+        for (int i = 0; i < STEPS; i++) {
             String name = NAMES[random.nextInt(NAMES.length)];
             if (crowded && (name.equals("erase") || name.equals("tick")) && random.nextInt(3) > 0) {
                 name = "put";
@@ -39,11 +40,19 @@ final class RandomRunsTest {
             if (!agree(name, arguments(name))) {
                 return false;
             }
-            if (!agree("link") || !agree("figure", i % 6) || !agree("about", someVersion(), i % 8)) {
+            if (!lookedAt(i)) {
                 return false;
             }
         }
         return true;
+    }
+
+    private boolean lookedAt(int step) {
+        switch (step % 4) {
+            case 0: return agree("link");
+            case 1: return agree("figure", random.nextInt(6));
+            default: return agree("about", someVersion(), random.nextInt(8));
+        }
     }
 
     private boolean agree(String name, int... a) {
@@ -72,7 +81,7 @@ final class RandomRunsTest {
     }
 
     private int someVersion() {
-        int put = vault.figure(2);
+        int put = (int) plain.answer("figure", 2);
         return random.nextInt(30) == 0 ? within(-2, 600) : Math.max(0, put - 1 - random.nextInt(30));
     }
 

@@ -4,13 +4,12 @@ final class ReadTest {
         warm();
         cold(2, 2);
         cold(3, 4);
-        wrongInputs();
         Checks.end();
     }
 
     private static void warm() {
         for (int tier = 0; tier <= 1; tier++) {
-            RetentionVault v = FetchTest.withTier(tier);
+            RetentionVault v = Scenes.inTier(tier);
             Checks.due("tier", tier, () -> v.about(0, 2));
             Checks.due("read of a warm one", 77, () -> v.read(0));
             Checks.due("no entry of a read", v.figure(3), () -> {
@@ -22,7 +21,7 @@ final class ReadTest {
 
     /** Fetched on day 1 for three days. */
     private static void cold(int tier, int from) {
-        RetentionVault v = FetchTest.withTier(tier);
+        RetentionVault v = Scenes.inTier(tier);
         Checks.badState(v, "not fetched", () -> v.read(0));
         v.fetch(0, 3);
         for (int day = 1; day <= 20; day++) {
@@ -33,15 +32,5 @@ final class ReadTest {
             }
             v.tick(1);
         }
-    }
-
-    private static void wrongInputs() {
-        RetentionVault v = FetchTest.withTier(3);
-        Checks.missing(v, "a marker", () -> v.read(2));
-        Checks.missing(v, "one taken away", () -> v.read(1));
-        Checks.missing(v, "one never put", () -> v.read(3));
-        Checks.missing(v, "read(-1)", () -> v.read(-1));
-        Checks.missing(v, "read(min)", () -> v.read(Integer.MIN_VALUE));
-        Checks.missing(v, "read(max)", () -> v.read(Integer.MAX_VALUE));
     }
 }

@@ -2,7 +2,6 @@
 final class RetainTest {
     public static void main(String[] args) {
         untilAndLog();
-        wrongInputs();
         strict();
         strictIsOver();
         Checks.end();
@@ -25,22 +24,6 @@ final class RetainTest {
         v.retain(0, 10000, false);
         Checks.due("10000 days", 10004, () -> v.about(0, 5));
         Checks.due("guarded", 1, () -> v.about(0, 7));
-    }
-
-    private static void wrongInputs() {
-        RetentionVault v = new RetentionVault();
-        v.put(1, 10, 0);
-        v.mark(1);
-        v.retain(0, 5, true);
-        Checks.missing(v, "retain of no version", () -> v.retain(2, 1, true));
-        Checks.missing(v, "retain of a marker", () -> v.retain(1, 1, true));
-        Checks.missing(v, "of a marker, wrong days", () -> v.retain(1, -1, true));
-        Checks.badArgument(v, "retain(0, -1, true)", () -> v.retain(0, -1, true));
-        Checks.badArgument(v, "retain(0, -1, false)", () -> v.retain(0, -1, false));
-        Checks.badArgument(v, "retain(0, 10001, true)", () -> v.retain(0, 10001, true));
-        Checks.badArgument(v, "retain(0, 10001, false)", () -> v.retain(0, 10001, false));
-        Checks.badArgument(v, "retain(0, max, true)", () -> v.retain(0, Integer.MAX_VALUE, true));
-        Checks.badArgument(v, "retain(0, min, true)", () -> v.retain(0, Integer.MIN_VALUE, true));
     }
 
     private static void strict() {

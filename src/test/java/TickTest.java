@@ -1,7 +1,7 @@
 /** Promise 11: tick, and what happens when a day begins. */
 final class TickTest {
     public static void main(String[] args) {
-        daysAndLimits();
+        days();
         coolingByRisingRules();
         nothingGrowsWarmer();
         expiryOfACurrentObject();
@@ -9,24 +9,18 @@ final class TickTest {
         guardsKeepOldOnes();
         guardedCurrentOnesGetAMarker();
         fullVault();
-        roomMadeOnTheSameDay();
         fallenBackToCurrent();
         loneMarkers();
         twoMarkersOfOneKey();
-        versionsByRisingNumbers();
         Checks.end();
     }
 
-    private static void daysAndLimits() {
+    private static void days() {
         RetentionVault v = new RetentionVault();
         Checks.due("tick(0)", 0, () -> v.tick(0));
         Checks.due("day", 0, () -> v.figure(0));
         Checks.due("tick(1000)", 0, () -> v.tick(1000));
         Checks.due("day", 1000, () -> v.figure(0));
-        int[] wrong = {-1, 1001, Integer.MIN_VALUE, Integer.MAX_VALUE};
-        for (int days : wrong) {
-            Checks.badArgument(v, "tick(" + days + ")", () -> v.tick(days));
-        }
         v.put(1, 1, 0);
         v.rule(0, -1, true, 0, 1);
         Checks.due("no day begins, no rule is looked at", 0, () -> v.tick(0));
@@ -135,22 +129,6 @@ final class TickTest {
         Checks.entryDue(v, 0, 3, 2, 40, 7);
     }
 
-    private static void roomMadeOnTheSameDay() {
-        RetentionVault v = new RetentionVault();
-        v.put(100, 1, 2);
-        v.put(200, 1, 0);
-        v.put(200, 1, 2);
-        for (int i = 3; i < 40; i++) {
-            v.put(i, 1, 1);
-        }
-        v.rule(0, 2, true, 0, 4);
-        v.rule(1, 0, false, 0, 4);
-        Checks.due("one away, then one marker", 2, () -> v.tick(1));
-        Checks.entryDue(v, 1, 1, 3, 1, 200);
-        Checks.entryDue(v, 0, 1, 2, 40, 200);
-        Checks.due("the first came too early", 0, () -> v.current(100));
-    }
-
     private static void fallenBackToCurrent() {
         RetentionVault v = new RetentionVault();
         v.put(1, 1, 0);
@@ -192,18 +170,5 @@ final class TickTest {
         v.erase(3, false);
         Checks.due("the other one is then", 1, () -> v.tick(1));
         Checks.entryDue(v, 0, 4, 3, 1, 3);
-    }
-
-    private static void versionsByRisingNumbers() {
-        RetentionVault v = new RetentionVault();
-        for (int i = 0; i < 6; i++) {
-            v.put(i % 2, 1, 0);
-        }
-        v.rule(0, -1, false, 0, 4);
-        v.rule(1, -1, true, 0, 1);
-        Checks.due("tick(1)", 6, () -> v.tick(1));
-        for (int i = 0; i < 6; i++) {
-            Checks.entryDue(v, 5 - i, 1, i < 4 ? 3 : 4, i, i < 4 ? i % 2 : 1);
-        }
     }
 }

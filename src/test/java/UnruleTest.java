@@ -17,10 +17,6 @@ final class UnruleTest {
         v.rule(5, -1, true, 0, 3);
         v.tick(1);
         Checks.due("set again", 3, () -> v.about(0, 2));
-        int[] wrong = {-1, 6, Integer.MIN_VALUE, Integer.MAX_VALUE};
-        for (int rule : wrong) {
-            Checks.badArgument(v, "unrule(" + rule + ")", () -> v.unrule(rule));
-        }
         Checks.end();
     }
 }
