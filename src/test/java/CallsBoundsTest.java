@@ -83,9 +83,8 @@ final class CallsBoundsTest {
             Checks.thrown(IllegalArgumentException.class, "rule", () -> v.rule(6, -1, true, 0, 1));
             return 1;
         });
-        RetentionVault v = Scenes.full();
-        int used = 41 + 11 + 6;
-        calls(used, LAST - 1, i -> Checks.thrown(IllegalStateException.class, "put", () -> v.put(1, 1, 0)));
-        Checks.thrown(IllegalStateException.class, "mark", () -> v.mark(Scenes.KEY_OF_WARM));
+        RetentionVault v = Scenes.with(40);
+        calls(41, LAST - 1, i -> Checks.thrown(IllegalStateException.class, "put", () -> v.put(1, 1, 0)));
+        Checks.thrown(IllegalStateException.class, "mark", () -> v.mark(1));
     }
 }

@@ -29,12 +29,20 @@ final class FetchBoundsTest {
             Bounds.badState(() -> Scenes.inTier(warm), "tier " + warm + ", 1 day", v -> v.fetch(0, 1));
             Bounds.badState(() -> Scenes.inTier(warm), "tier " + warm + ", 100 days", v -> v.fetch(0, 100));
         }
+        Bounds.badState(FetchBoundsTest::coldTomorrow, "cold from tomorrow on", v -> v.fetch(0, 100));
+        Bounds.badArgument(FetchBoundsTest::coldTomorrow, "cold from tomorrow on, 101 days", v -> v.fetch(0, 101));
         Bounds.badState(Scenes::busy, "tier 0, busy", v -> v.fetch(Scenes.WARM, 1));
         Bounds.badState(Scenes::busy, "tier 1, busy", v -> v.fetch(Scenes.COOL, 1));
         for (int tier = 2; tier <= 3; tier++) {
             int cold = tier;
             Bounds.taken(() -> Scenes.inTier(cold), "tier " + cold, v -> v.fetch(0, 1));
         }
+    }
+
+    private static RetentionVault coldTomorrow() {
+        RetentionVault v = Scenes.inTier(1);
+        v.rule(1, -1, true, 2, 2);
+        return v;
     }
 
     private static void from() {

@@ -25,7 +25,7 @@ final class RuleBoundsTest {
     }
 
     private static void tag() {
-        Bounds.range(Scenes::busy, "tag", -1, 3, (v, tag) -> v.rule(0, tag, true, 0, 4));
+        Bounds.range(Scenes::busy, "tag", -1, 3, (v, tag) -> v.rule(3, tag, true, 0, 4));
         Bounds.range(Scenes::busy, "tag of the empty rule", -1, 3,
                 (v, tag) -> v.rule(Scenes.EMPTY_RULE, tag, false, 0, 4));
         for (int i = -1; i <= 3; i++) {
@@ -70,7 +70,7 @@ final class RuleBoundsTest {
     }
 
     private static void action() {
-        Bounds.range(Scenes::busy, "action", 1, 4, (v, action) -> v.rule(0, 0, true, 0, action));
+        Bounds.range(Scenes::busy, "action", 1, 4, (v, action) -> v.rule(3, 0, true, 0, action));
         Bounds.range(Scenes::busy, "action of the empty rule", 1, 4,
                 (v, action) -> v.rule(Scenes.EMPTY_RULE, 0, false, 0, action));
         for (int i = 1; i <= 4; i++) {
@@ -92,6 +92,6 @@ final class RuleBoundsTest {
         Bounds.badArgument(Scenes::busy, "all too small", v -> v.rule(-1, -2, true, -1, 0));
         Bounds.badArgument(Scenes::busy, "all too large", v -> v.rule(6, 4, false, 10001, 5));
         Bounds.badArgument(Scenes::busy, "no rule, all else right", v -> v.rule(6, -1, true, 0, 1));
-        Bounds.badArgument(Scenes::busy, "all but the rule wrong", v -> v.rule(0, 4, true, -1, 5));
+        Bounds.badArgument(Scenes::busy, "all but the rule wrong", v -> v.rule(4, 4, true, -1, 5));
     }
 }
