@@ -7,6 +7,10 @@ final class FetchBoundsTest {
         Checks.sentence("9: from tomorrow on (tier 2), or three days from now on (tier 3)", FetchBoundsTest::from);
         Checks.sentence("9: for so many days", FetchBoundsTest::forDays);
         Checks.sentence("9: what was fetched before counts no more", FetchBoundsTest::fetchedAgain);
+        Checks.sentence("9: from tomorrow on (tier 2) .. for so many days (though it grows colder meanwhile)",
+                FetchBoundsTest::colderMeanwhile);
+        Checks.sentence("9: what was fetched before counts no more (also when it has grown colder)",
+                FetchBoundsTest::fetchedAgainWhenColder);
         Checks.sentence("9: the one named first", FetchBoundsTest::order);
         Checks.end();
     }
@@ -100,6 +104,47 @@ final class FetchBoundsTest {
         RetentionVault v = fetched(2, 100, 5);
         v.fetch(0, 1);
         return v;
+    }
+
+    /** Fetched on day 1 in tier 2, to be read on the days 2, 3 and 4; in tier 3 from this day on. */
+    private static RetentionVault colderOn(int colder, int today) {
+        RetentionVault v = Scenes.inTier(2);
+        v.rule(1, -1, true, colder, 3);
+        v.fetch(0, 3);
+        v.tick(today - 1);
+        return v;
+    }
+
+    private static void colderMeanwhile() {
+        for (int i = 2; i <= 6; i++) {
+            int colder = i;
+            String call = "colder on day " + colder + ", on day ";
+            Bounds.badState(() -> colderOn(colder, 1), call + 1, v -> v.read(0));
+            for (int j = 2; j <= 4; j++) {
+                int today = j;
+                Bounds.answers(() -> colderOn(colder, today), call + today, 77, v -> v.read(0));
+            }
+            Bounds.badState(() -> colderOn(colder, 5), call + 5, v -> v.read(0));
+            Bounds.badState(() -> colderOn(colder, 7), call + 7, v -> v.read(0));
+        }
+    }
+
+    private static void fetchedAgainWhenColder() {
+        Bounds.answers(() -> colderOn(2, 2), "from which day on", 5, v -> v.fetch(0, 1));
+        for (int i = 0; i <= 4; i++) {
+            int later = i;
+            Bounds.Scene scene = () -> {
+                RetentionVault v = colderOn(2, 2);
+                v.fetch(0, 1);
+                v.tick(later);
+                return v;
+            };
+            if (later == 3) {
+                Bounds.answers(scene, "on its only day", 77, v -> v.read(0));
+            } else {
+                Bounds.badState(scene, later + " days on", v -> v.read(0));
+            }
+        }
     }
 
     private static void order() {

@@ -16,6 +16,7 @@ final class RandomRunsTest {
     private final RetentionVault vault = new RetentionVault();
     private final PlainVault plain = new PlainVault();
     private final boolean crowded;
+    private int lastFetched;
     private final StringBuilder told = new StringBuilder();
 
     private RandomRunsTest(long seed) {
@@ -51,6 +52,7 @@ final class RandomRunsTest {
         switch (step % 4) {
             case 0: return agree("link");
             case 1: return agree("figure", random.nextInt(6));
+            case 2: return agree("read", lastFetched);
             default: return agree("about", someVersion(), random.nextInt(8));
         }
     }
@@ -116,6 +118,12 @@ final class RandomRunsTest {
         }
     }
 
+    private int fetch(int version, int days) {
+        int from = vault.fetch(version, days);
+        lastFetched = version;
+        return from;
+    }
+
     private long ask(String name, int... a) {
         RetentionVault v = vault;
         switch (name) {
@@ -126,7 +134,7 @@ final class RandomRunsTest {
             case "hold": return v.hold(a[0], a[1], a[2] == 1) ? 1 : 0;
             case "rule": v.rule(a[0], a[1], a[2] == 1, a[3], a[4]); return 0;
             case "unrule": return v.unrule(a[0]) ? 1 : 0;
-            case "fetch": return v.fetch(a[0], a[1]);
+            case "fetch": return fetch(a[0], a[1]);
             case "read": return v.read(a[0]);
             case "tick": return v.tick(a[0]);
             case "current": return v.current(a[0]);
